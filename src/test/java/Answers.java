@@ -16,10 +16,20 @@ final class Answers {
         try {
             return String.valueOf(method(x.getClass(), name).invoke(x, boxed));
         } catch (InvocationTargetException e) {
-            return "throws." + e.getCause().getClass().getName();
+            boolean own = isThrownBy(e.getCause(), x.getClass());
+            return (own ? "throws." : "the machine throws.") + e.getCause().getClass().getName();
         } catch (IllegalAccessException e) {
             throw new AssertionError(e);
         }
+    }
+
+    /** Whether code of this class threw it, and not the library or the machine below that code. */
+    static boolean isThrownBy(Throwable thrown, Class<?> type) {
+        StackTraceElement[] trace = thrown.getStackTrace();
+        return trace.length > 0 && trace[0].getClassName().equals(type.getName())
+                && (thrown.getClass() == IndexOutOfBoundsException.class
+                || thrown.getClass() == IllegalArgumentException.class
+                || thrown.getClass() == IllegalStateException.class);
     }
 
     private static Method method(Class<?> type, String name) {

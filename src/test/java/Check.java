@@ -29,7 +29,7 @@ final class Check {
         try {
             call.run();
         } catch (RuntimeException e) {
-            thrown = e.getClass();
+            thrown = Answers.isThrownBy(e, ConfigBeacon.class) ? e.getClass() : "the machine's " + e;
         }
         due(what + " throws", thrown, want);
         if (!before.equals(Answers.all(x))) {
