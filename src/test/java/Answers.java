@@ -81,15 +81,69 @@ final class Answers {
             tell(text, x, "differ", client, other);
         }
         for (int setting = 0; setting < 16; setting++) {
-            for (String name : new String[] {"value", "status", "culprit", "layerOf", "isNew", "uses"}) {
-                tell(text, x, name, client, setting);
+            tellQuestion(text, x, client, setting, version);
+        }
+    }
+
+    private static void tellQuestion(StringBuilder text, Object x, int client, int setting, int version) {
+        for (String name : new String[] {"value", "status", "culprit", "layerOf", "isNew", "uses"}) {
+            tell(text, x, name, client, setting);
+        }
+        // the newest versions and some old ones: all of them would take long
+        for (int k = 0; k <= version; k += k < version - 4 ? 1 + version / 8 : 1) {
+            tell(text, x, "statusAt", k, client, setting);
+            tell(text, x, "valueAt", k, client, setting);
+        }
+    }
+
+    /** All of this, and what only changes bring to light; x is used up by it. */
+    static String everything(Object x) {
+        StringBuilder text = new StringBuilder(all(x));
+        int layers = tell(text, x, "layers");
+        for (int layer = 0; layer < layers; layer++) {
+            for (int setting = -1; setting < 16; setting++) {
+                for (int owner = 1; owner <= 9; owner++) {
+                    tell(text, x, "unlock", layer, setting, owner);
+                }
             }
-            // the newest versions and some old ones: all of them would take long
-            for (int k = 0; k <= version; k += k < version - 4 ? 1 + version / 8 : 1) {
-                tell(text, x, "statusAt", k, client, setting);
-                tell(text, x, "valueAt", k, client, setting);
+            tell(text, x, "rank", layer, 0);
+        }
+        for (int client = 0; client < 12; client++) {
+            tell(text, x, "client", 0, 0);
+        }
+        tellEntries(text, x, layers);
+        for (int layer = 0; layer < layers; layer++) {
+            for (int setting = 0; setting < 16; setting++) {
+                tell(text, x, "advance", layer, setting, 100, 1);
             }
         }
+        tellEntries(text, x, layers);
+        return text.toString();
+    }
+
+    /** Puts each layer first in turn, and moves a client so that the layer applies to it. */
+    private static void tellEntries(StringBuilder text, Object x, int layers) {
+        int version = tell(text, x, "version");
+        for (int layer = 0; layer < layers; layer++) {
+            call(x, "rank", layer, 99);
+            int client = clientOf(x, layer);
+            for (int setting = 0; setting < 16; setting++) {
+                tellQuestion(text, x, client, setting, version);
+            }
+            call(x, "rank", layer, 0);
+        }
+    }
+
+    private static int clientOf(Object x, int layer) {
+        for (int client = 0; client < 12; client++) {
+            for (int area = 0; area < 8; area++) {
+                call(x, "move", client, area, area);
+                if (call(x, "applies", layer, client).equals("true")) {
+                    return client;
+                }
+            }
+        }
+        throw new AssertionError("layer " + layer + " applies to no client");
     }
 
     private static int tell(StringBuilder text, Object x, String name, int... arguments) {
